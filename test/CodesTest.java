@@ -68,6 +68,9 @@ public final class CodesTest {
         Checks.step("01 C8", "A=12FF C=1", "A=1300 F=14");
         Checks.step("01 07", "A=7FFF B=8 [30008]=0100", "[30008]=0080 F=894");
         Checks.step("02 07", "A=0 [30000]=05", "A=5 F=4");
+        Checks.step("02 07", "A=FF01 [30000]=02FF", "A=FF03 F=4");
+        Checks.step("03 07", "A=101 [30000]=0101", "A=202 F=0");
+        Checks.step("2A 07", "A=FF03 [30000]=02FF", "A=FF01 F=0");
         Checks.step("03 D9", "B=FFFF C=FFFF", "B=FFFE F=91");
         Checks.step("04 80", "A=80", "A=0 F=845");
         Checks.step("05 00 80", "A=8000", "A=0 F=845");
@@ -98,6 +101,8 @@ public final class CodesTest {
         Checks.step("85 07", "A=8001 [30000]=0080 F=811", "F=84");
         Checks.step("A8 80", "A=80 F=811", "F=80");
         Checks.step("A9 00 01", "A=80 F=811", "F=44");
+        Checks.step("A9 00 80", "A=8000 F=811", "F=84");
+        Checks.step("A8 00", "A=FFFF F=811", "F=44");
         Checks.step("40", "A=FFFF F=1", "A=0 F=55");
         Checks.step("44", "F=1", "SP=101 F=1");
         Checks.step("47", "DI=7FFF", "DI=8000 F=894");

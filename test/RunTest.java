@@ -4,6 +4,7 @@ public final class RunTest {
         numbers();
         noCodes();
         lengths();
+        allLengths();
         prefixes();
         codeOverTheEdge();
         noCodeIsNoStep();
@@ -100,6 +101,60 @@ public final class RunTest {
         Checks.noCode(prefixed(14, ""), "[1001E]=26269090");
         Checks.noCode(prefixed(500, "90"), "");
         Checks.noCode("262626262626262626262626262690A0".replace("90A0", "B83412"), "");
+    }
+
+    /** How many bytes follow M itself, by mode and m. */
+    private static int displacement(int m) {
+        int mode = m >> 6;
+        if (mode == 0) {
+            return (m & 7) == 6 ? 2 : 0;
+        }
+        return mode == 3 ? 0 : mode;
+    }
+
+    private static boolean hasM(int c) {
+        return c < 0x40 && (c & 4) == 0 || c >= 0x80 && c < 0x90 || c >= 0xC4 && c < 0xC8 || c >= 0xD0 && c < 0xD4
+                || c >= 0xD8 && c < 0xE0 || c == 0xF6 || c == 0xF7 || c >= 0xFE;
+    }
+
+    /** How many bytes i and the like have. */
+    private static int behind(int c, int r) {
+        int w = c % 2;
+        if (c < 0x40) {
+            return (c & 6) == 4 ? 1 + w : 0;
+        }
+        if (c == 0xF6 || c == 0xF7) {
+            return r < 2 ? 1 + w : 0;
+        }
+        if (c == 0x81 || c == 0xC7 || c >= 0xA0 && c < 0xA4 || c == 0xA9 || c >= 0xB8 && c < 0xC0) {
+            return 2;
+        }
+        if (c == 0xC0 || c == 0xC2 || c == 0xC8 || c == 0xCA || c == 0xE8 || c == 0xE9) {
+            return 2;
+        }
+        if (c == 0x9A || c == 0xEA) {
+            return 4;
+        }
+        boolean one = c >= 0x60 && c < 0x80 || c >= 0x80 && c < 0x84 || c == 0xA8 || c >= 0xB0 && c < 0xB8 || c == 0xC6
+                || c == 0xCD || c == 0xD4 || c == 0xD5 || c >= 0xE0 && c < 0xE8 || c == 0xEB;
+        return one ? 1 : 0;
+    }
+
+    /** With so many prefixes that it has 15 bytes each code is done; with one more it is NO CODE. */
+    private static void allLengths() {
+        for (int c = 0; c < 256; c++) {
+            boolean prefix = (c & 0xE7) == 0x26 || c >= 0xF0 && c <= 0xF3;
+            for (int m = 0; m < 256 && !prefix; m += hasM(c) ? 1 : 97) {
+                int r = m >> 3 & 7;
+                boolean none = (c == 0x8D || c == 0xC4 || c == 0xC5) && m >= 0xC0 || c == 0xFE && r > 1
+                        || c == 0xFF && m >= 0xC0 && (r == 3 || r == 5);
+                int length = 1 + (hasM(c) ? 1 + displacement(m) : 0) + behind(c, r);
+                String code = String.format("%02X%02X0102030405", c, m);
+                int due = none ? MachineCore.NO_CODE : MachineCore.DONE;
+                Checks.due(code + " to 15", Checks.machine(prefixed(15 - length, code)).run(1), due);
+                Checks.due(code + " to 16", Checks.machine(prefixed(16 - length, code)).run(1), MachineCore.NO_CODE);
+            }
+        }
     }
 
     private static void prefixes() {
