@@ -5,6 +5,7 @@ public final class CodeEdgesTest {
         theLastPrefixCounts();
         repeatOnlyForStrings();
         fifteenBytesAndSixteen();
+        prefixesWithoutEnd();
         noCodesOneByOne();
         noCodeChangesNothing();
         displacements();
@@ -101,6 +102,30 @@ public final class CodeEdgesTest {
         x.write(0x1FFF4, 0x90909026);
         Checks.due("16 bytes over the edge of CODE", x.run(1), MachineCore.NO_CODE);
         Checks.due("IP is where it begins", x.get(12), 0xFFF7);
+    }
+
+    /** All of CODE's 65536 bytes are prefixes: NO CODE all the same, wherever IP is. */
+    private static void prefixesWithoutEnd() {
+        MachineCore x = new MachineCore();
+        x.set(9, 0x8000);
+        x.set(8, 0x8000);
+        x.set(12, 0xFF00);
+        x.set(0, 0x2626);
+        x.set(1, 0x7F80);
+        x.write(0x8FF00, 0xF3AB9090);
+        Checks.due("all but the last page", x.run(500) + x.run(10), MachineCore.DONE);
+        Checks.due("C", x.get(1), 0);
+        for (int place = 0x8FF00; place < 0x90000; place += 4) {
+            x.write(place, 0x26262626);
+        }
+        int[] places = {0, 1, 0x1234, 0xFFF1, 0xFFF2, 0xFFFF};
+        for (int ip : places) {
+            x.set(12, ip);
+            Checks.due("prefixes from " + ip, x.run(500), MachineCore.NO_CODE);
+            Checks.due("IP stays", x.get(12), ip);
+        }
+        Checks.due("pages", x.count(1), 256);
+        Checks.due("none lost", x.count(2), 0);
     }
 
     private static void noCodesOneByOne() {

@@ -22,10 +22,16 @@ public final class FaceTest {
             for (Class<?> p : m.getParameterTypes()) {
                 b.append(' ').append(p);
             }
+            for (Class<?> e : m.getExceptionTypes()) {
+                b.append(" throws ").append(e.getName());
+            }
             methods.add(b.toString());
         }
-        String want = "[int byteAt int, int count int, int get int, int port int, int run int, "
-                + "void line int, void set int int, void setPort int int, void write int int]";
+        String bounds = " throws java.lang.IndexOutOfBoundsException";
+        String argument = " throws java.lang.IllegalArgumentException";
+        String want = "[int byteAt int" + bounds + ", int count int" + argument + ", int get int" + bounds
+                + ", int port int, int run int" + argument + ", void line int" + argument + ", void set int int" + bounds
+                + ", void setPort int int, void write int int" + bounds + "]";
         Checks.due("the methods " + methods, methods.toString().equals(want) ? 1 : 0, 1);
         for (Method m : c.getMethods()) {
             Checks.due(m + " is no private one's name", hidden.contains(m.getName()) ? 1 : 0, 0);
@@ -42,6 +48,10 @@ public final class FaceTest {
         Constructor<?>[] made = c.getDeclaredConstructors();
         Checks.due("constructors", made.length, 1);
         Checks.due("its parameters", made[0].getParameterCount(), 0);
+        Checks.due("its exceptions", made[0].getExceptionTypes().length, 0);
+        Checks.due("it is public", Modifier.isPublic(made[0].getModifiers()) ? 1 : 0, 1);
+        Checks.due("no class above it", c.getSuperclass() == Object.class ? 1 : 0, 1);
+        Checks.due("no package", c.getPackageName().length(), 0);
         for (Class<?> inside : c.getDeclaredClasses()) {
             int how = inside.getModifiers();
             Checks.due(inside + " is static", Modifier.isStatic(how) ? 1 : 0, 1);

@@ -29,6 +29,7 @@ public final class PortsTest {
         out("EE", 0x12, 0x34, 0x22, 0x44, 0x33);
         out("EF", 0x12, 0x34, 0x12, 0x44, 0x33);
         out("EF", 0xFF, 0x11, 0x22, 0x12, 0x34);
+        byNoOtherCode();
         Checks.finish();
     }
 
@@ -62,5 +63,36 @@ public final class PortsTest {
         Checks.due(code + " port 255", x.port(255), at255);
         Checks.due(code + " A", x.get(0), 0x1234);
         Checks.due(code + " pages", x.count(1), 1);
+    }
+
+    /** E4 to E7 and EC to EF alone: the others leave each port as it is, and take nothing from one. */
+    private static void byNoOtherCode() {
+        for (int c = 0; c < 256; c++) {
+            boolean uses = c >= 0xE4 && c <= 0xE7 || c >= 0xEC && c <= 0xEF;
+            for (int m = 0; m < 256 && !uses; m += 37) {
+                String code = String.format("%02X%02X2020", c, m);
+                MachineCore x = filled(code, 0x55);
+                MachineCore y = filled(code, 0xAA);
+                Checks.due(code + " run", x.run(1), y.run(1));
+                for (int p = 0; p < 100; p++) {
+                    Checks.due(code + " port " + p, x.port(p), 0x55);
+                }
+                for (int r = 0; r < 14; r++) {
+                    Checks.due(code + " get " + r, x.get(r), y.get(r));
+                }
+            }
+        }
+    }
+
+    /** Ports 0 to 99 hold a number that neither A nor the code has. */
+    private static MachineCore filled(String code, int held) {
+        MachineCore x = Checks.machine(code);
+        for (int p = 0; p < 100; p++) {
+            x.setPort(p, held);
+        }
+        x.set(0, 0x1234);
+        x.set(1, 3);
+        x.set(2, 50);
+        return x;
     }
 }
